@@ -191,6 +191,25 @@ public final class TypedTest {
         Due.is("the prefix itself is none", 35, () -> x.hint(0));
     }
 
+    private static void hintsAtTheEnds() {
+        ScanCodes x = new ScanCodes(2);
+        int[] known = {99, 10, 98, 89, 11, 20, 21};
+        for (int prefix : known) {
+            x.prefix(prefix, 1, true, -1);
+        }
+        Object[][] rows = {
+            {"90", 10, 20, 98, 99, -1}, {"19", 10, 11, 89, 99, -1}, {"88", 89, 98, -1}, {"97", 98, 99, -1},
+            {"00", 10, 20, -1}, {"01", 11, 21, -1}, {"09", 89, 99, -1}, {"12", 10, 11, -1}, {"33", -1},
+        };
+        for (Object[] row : rows) {
+            Due.is("unknown " + row[0], -4, () -> Due.apart(x, row[0] + "1"));
+            for (int i = 1; i < row.length; i++) {
+                int n = i - 1;
+                Due.is("hint(" + n + ") for " + row[0], (Integer) row[i], () -> x.hint(n));
+            }
+        }
+    }
+
     private static void hintsEnd() {
         ScanCodes x = withPrefixes();
         String[] others = {"169", "1", "15/1", "151", "9009119229339449551"};
@@ -215,6 +234,7 @@ public final class TypedTest {
         fieldByField();
         knownFields();
         hints();
+        hintsAtTheEnds();
         hintsEnd();
         Due.done("TypedTest");
     }
