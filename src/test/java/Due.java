@@ -18,6 +18,7 @@ final class Due {
 
     private static int asked = 0;
     private static int wrong = 0;
+    private static String about = "";
 
     private Due() {
     }
@@ -50,8 +51,21 @@ final class Due {
         asked++;
         if (!due.equals(got)) {
             wrong++;
-            System.out.println(what + " answered " + got + ", due is " + due);
+            System.out.println(about + what + " answered " + got + ", due is " + due);
         }
+    }
+
+    /** One test under its own name: how many of its answers are wrong. */
+    static int test(String name, Deed body) {
+        int before = wrong;
+        about = name + ": ";
+        try {
+            body.run();
+        } catch (RuntimeException e) {
+            compare("a call that should be answered", "an answer", e.toString());
+        }
+        about = "";
+        return wrong - before;
     }
 
     static void done(String test) {
@@ -100,7 +114,8 @@ final class Due {
     /** The modules of the label that was made last. */
     static String modules(ScanCodes x) {
         StringBuilder all = new StringBuilder();
-        for (int i = 0; i < x.count(2); i++) {
+        int size = x.count(2);
+        for (int i = 0; i < size; i++) {
             all.append(x.module(i));
         }
         return all.toString();

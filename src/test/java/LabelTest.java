@@ -138,6 +138,9 @@ public final class LabelTest {
         x.field(33, 1, 8);
         x.field(34, 1, 1);
         Due.is("60 signs of five fields", 420, () -> x.make());
+        x.begin();
+        x.field(30, 1, 1);
+        Due.is("four signs", 28, () -> x.make());
         String before = Due.modules(x);
         x.begin();
         x.field(30, 1, 12);
@@ -146,7 +149,7 @@ public final class LabelTest {
         x.field(33, 1, 9);
         x.field(34, 1, 1);
         Due.refused("61 signs", Due.NO_ROOM, () -> x.make());
-        Due.is("the label made before stays", 420, () -> x.count(2));
+        Due.is("the label made before stays", 28, () -> x.count(2));
         Due.compare("its modules stay", before, Due.modules(x));
         x.begin();
         for (int prefix = 30; prefix < 36; prefix++) {
@@ -155,7 +158,7 @@ public final class LabelTest {
         Due.refused("90 signs", Due.NO_ROOM, () -> x.make());
         x.begin();
         Due.refused("make() after begin()", Due.STATE, () -> x.make());
-        Due.is("begin() leaves the label made before", 420, () -> x.count(2));
+        Due.is("begin() leaves the label made before", 28, () -> x.count(2));
     }
 
     private static void noModule() {

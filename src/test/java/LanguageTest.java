@@ -10,7 +10,8 @@ public final class LanguageTest {
         "->", "::", "\\bfinally\\b", "\\bsynchronized\\b", "\\bassert\\b", "Exact\\b", "\\bpackage\\b", "\\.SIZE\\b",
         "\\bprotected\\b", "static\\s*\\{",
     };
-    private static final String[] IMPORTS = {"java.util.Arrays", "java.util.NoSuchElementException"};
+    private static final String[] IMPORTS = {"java.util.ArrayList", "java.util.Arrays", "java.util.Iterator",
+        "java.util.List", "java.util.NoSuchElementException"};
     private static final int LONGEST_METHOD = 60;
 
     private static void words(String code) {
