@@ -406,12 +406,10 @@ final class ReadEdges {
         }, PARSE, "return whole ?", "return whole && signs.size() <= MAX_SIGNS ?");
         s.edge("420 modules of form 0 are 105 signs", () -> {
             ScanCodes x = Edges.fixed(0, 20, 12);
-            StringBuilder zeros = new StringBuilder();
-            for (int i = 0; i < 105; i++) {
-                zeros.append('0');
-            }
-            Due.is("00 is no prefix", -4, () -> Due.readApart(x, plain(zeros.toString())));
-        }, "class ScanCodes", "MAX_READ_SIGNS = 105", "MAX_READ_SIGNS = 3");
+            // The first of 104 signs counts once: the check sign is 9.
+            Due.is("10 is not known", -4, () -> Due.readApart(x, plain("1" + "0".repeat(103) + "9")));
+            Due.is("a wrong check sign", -2, () -> Due.readApart(sixteen(0), plain("1" + "0".repeat(103) + "8")));
+        }, "class ScanCodes", "MAX_READ_SIGNS = 105", "MAX_READ_SIGNS = 104");
     }
 
     private static void afterParse(Edges all) {

@@ -333,7 +333,7 @@ final class ScanEdges {
 
     /** Two labels that are different: the second is no doubled scan of the first. */
     private static void different(String one, String other) {
-        ScanCodes x = codes();
+        ScanCodes x = Edges.with(codes(), false, 11, 4);
         int fields = (int) Due.apart(x, one);
         Due.is(one, fields, () -> x.scan(0, 0));
         int others = (int) Due.apart(x, other);
@@ -353,6 +353,9 @@ final class ScanEdges {
             different("101", "102");
             different("102", "103");
         }, KEY, "+ label.numberAt(i)", "+ label.numberAt(i) / 2 * 2");
+        s.edge("the next prefix, a digit less", () -> different("1001", "111"), KEY, "label.prefixAt(i) * LENGTHS",
+                "label.prefixAt(i)");
+        s.edge("a digit more, a number one less", () -> different("102", "1001"), KEY, "head * NUMBERS", "head");
         s.edge("a number that is the same as an int", () -> different("400000000000", "404294967296"), KEY,
                 "+ label.numberAt(i)", "+ (int) label.numberAt(i)");
         s.edge("the greatest numbers", () -> different("40999999999999", "40999999999998"), KEY,
