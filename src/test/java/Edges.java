@@ -3,7 +3,7 @@ import java.util.List;
 
 /** The boundary cases that the document names, each a test of its own under the promise and the sentence it is of. */
 final class Edges {
-    /** The run of one case, and the change of the class by which just its sentence would be broken. */
+    /** The run of one case, and a change of the class by which its sentence would be broken. */
     record Edge(String name, Due.Deed run, String in, String from, String to) {
     }
 
